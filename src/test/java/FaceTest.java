@@ -1,0 +1,87 @@
+import java.io.IOException;
+import java.lang.reflect.Field;
+import java.lang.reflect.Method;
+import java.lang.reflect.Modifier;
+import java.nio.charset.StandardCharsets;
+import java.nio.file.Files;
+import java.nio.file.Path;
+import java.util.Arrays;
+import java.util.Set;
+import java.util.TreeSet;
+import java.util.regex.Matcher;
+import java.util.regex.Pattern;
+
+/** The face of the class, and those rules of LANGUAGE.md that can be seen in its text or its fields. */
+public final class FaceTest {
+    private static final String[] FACE = {
+        "int pass(int)", "int tract(int,int)", "int deed(int,int,int,int,int)", "int title(int,int,int)",
+        "int lease(int,int,int,int,int)", "boolean isHeld(int,int)", "int unit(int)", "int well(int)",
+        "int oil(int,int,int,int)", "int cost(int,int,int)", "int tax(int,int)", "boolean consent(int,int,boolean)",
+        "int penalty(int)", "int interest(int,int,int,boolean)", "int revenue(int,int)", "int due(int,int,int)",
+        "long balance(int,int,int)", "boolean agrees(int,int)", "boolean suspend(int,boolean)", "int least(int)",
+        "long payDay()", "long owed(int)", "long paid(int)"};
+
+    private static final String[] LEFT_OUT = {
+        "->", "::", "\\bimport\\b", "\\bpackage\\b", "\\bfinally\\b", "\\bsynchronized\\b", "\\bassert\\b", "\\bcatch\\b",
+        "Exact\\b", "\\bvar\\b", "\\bSystem\\b", "\\bThread\\b", "\\bRandom\\b", "\\bequals\\b", "\\bhashCode\\b",
+        "\\btoString\\b", "\\bNaN\\b", "[^\\x00-\\x7f]", "new \\w+Exception\\(\"[^\"]*\" \\+"};
+
+    public static void main(String[] args) throws IOException {
+        face();
+        members();
+        text(Path.of(args.length > 0 ? args[0] : "src/main/java/Divisionorder.java"));
+        Check.end("FaceTest");
+    }
+
+    private static String signature(Method method) {
+        StringBuilder text = new StringBuilder(method.getReturnType().getSimpleName());
+        text.append(' ').append(method.getName()).append('(');
+        for (Class<?> type : method.getParameterTypes()) {
+            text.append(text.charAt(text.length() - 1) == '(' ? "" : ",").append(type.getSimpleName());
+        }
+        return text.append(')').toString();
+    }
+
+    private static void face() {
+        Set<String> due = new TreeSet<>(Arrays.asList(FACE));
+        Set<String> got = new TreeSet<>();
+        Set<String> publicNames = new TreeSet<>();
+        for (Method method : Divisionorder.class.getDeclaredMethods()) {
+            if (!Modifier.isPrivate(method.getModifiers())) {
+                got.add(signature(method));
+                publicNames.add(method.getName());
+                Check.same(method + " is public", Modifier.isPublic(method.getModifiers()), true);
+                Check.same(method + " is static", Modifier.isStatic(method.getModifiers()), false);
+            }
+        }
+        Check.same("the face", got, due);
+        for (Method method : Divisionorder.class.getDeclaredMethods()) {
+            if (Modifier.isPrivate(method.getModifiers())) {
+                Check.same(method + " bears a public name", publicNames.contains(method.getName()), false);
+            }
+        }
+    }
+
+    private static void members() {
+        int modifiers = Divisionorder.class.getModifiers();
+        Check.same("public and final", Modifier.isPublic(modifiers) && Modifier.isFinal(modifiers), true);
+        Check.same("constructors", Divisionorder.class.getConstructors().length, 1);
+        for (Field field : Divisionorder.class.getDeclaredFields()) {
+            int is = field.getModifiers();
+            Check.same(field + " is seen", Modifier.isPrivate(is), !field.getName().equals("NONE"));
+            Check.same(field + " is static, but not final", Modifier.isStatic(is) && !Modifier.isFinal(is), false);
+        }
+        for (Class<?> inner : Divisionorder.class.getDeclaredClasses()) {
+            int is = inner.getModifiers();
+            Check.same(inner + " is static, and not public", Modifier.isStatic(is) && !Modifier.isPublic(is), true);
+        }
+    }
+
+    private static void text(Path file) throws IOException {
+        String text = Files.readString(file, StandardCharsets.ISO_8859_1);
+        for (String pattern : LEFT_OUT) {
+            Matcher found = Pattern.compile(pattern).matcher(text);
+            Check.same(pattern, found.find() ? "stands at " + found.start() : "is left out", "is left out");
+        }
+    }
+}
