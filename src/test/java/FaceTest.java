@@ -5,7 +5,9 @@ import java.lang.reflect.Modifier;
 import java.nio.charset.StandardCharsets;
 import java.nio.file.Files;
 import java.nio.file.Path;
+import java.util.ArrayList;
 import java.util.Arrays;
+import java.util.List;
 import java.util.Set;
 import java.util.TreeSet;
 import java.util.regex.Matcher;
@@ -29,6 +31,7 @@ public final class FaceTest {
     public static void main(String[] args) throws IOException {
         face();
         members();
+        sizes();
         text(Path.of(args.length > 0 ? args[0] : "src/main/java/Divisionorder.java"));
         Check.end("FaceTest");
     }
@@ -74,6 +77,21 @@ public final class FaceTest {
         for (Class<?> inner : Divisionorder.class.getDeclaredClasses()) {
             int is = inner.getModifiers();
             Check.same(inner + " is static, and not public", Modifier.isStatic(is) && !Modifier.isPublic(is), true);
+        }
+    }
+
+    /** Rule 11. */
+    private static void sizes() {
+        List<Class<?>> classes = new ArrayList<>(List.of(Divisionorder.class.getDeclaredClasses()));
+        classes.add(Divisionorder.class);
+        Check.same("twelve classes at most", classes.size() <= 12, true);
+        for (Class<?> each : classes) {
+            long fields = Arrays.stream(each.getDeclaredFields()).filter(f -> !Modifier.isStatic(f.getModifiers()))
+                    .count();
+            Check.same(each + " has twenty fields at most", fields <= 20, true);
+            for (Method method : each.getDeclaredMethods()) {
+                Check.same(method + " has seven parameters at most", method.getParameterCount() <= 7, true);
+            }
         }
     }
 

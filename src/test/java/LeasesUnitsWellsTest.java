@@ -249,15 +249,6 @@ public final class LeasesUnitsWellsTest {
         Check.same("11: owed in all", x.due(0, 0, 0), -11000005);
     }
 
-    private static Divisionorder dear() {
-        Divisionorder x = Scenes.busy();
-        for (int times = 0; times < 9; times++) {
-            x.cost(0, 2, 1000000);
-        }
-        x.cost(0, 2, 999223);
-        return x;
-    }
-
     private static void costWrong() {
         Check.refuses("11: well 2", Check.INDEX, Scenes::busy, y -> y.cost(2, 2, 1));
         Check.refuses("11: well 6", Check.INDEX, Scenes::fullOfWells, y -> y.cost(6, 2, 1));
@@ -270,8 +261,8 @@ public final class LeasesUnitsWellsTest {
         Check.refuses("11: ahead of the unit", Check.STATE, Scenes::busy, y -> y.cost(1, 0, 1));
         Check.refuses("11: cents ahead of the unit", Check.ARGUMENT, Scenes::busy, y -> y.cost(1, 0, 0));
         Check.refuses("11: month ahead of cents", Check.INDEX, Scenes::busy, y -> y.cost(1, 3, 0));
-        Check.refuses("11: too much", Check.STATE, LeasesUnitsWellsTest::dear, y -> y.cost(0, 2, 1));
-        Check.refuses("11: cents ahead of too much", Check.ARGUMENT, LeasesUnitsWellsTest::dear,
+        Check.refuses("11: too much", Check.STATE, Scenes::fullOfCosts, y -> y.cost(0, 2, 1));
+        Check.refuses("11: cents ahead of too much", Check.ARGUMENT, Scenes::fullOfCosts,
                 y -> y.cost(0, 2, 1000001));
     }
 

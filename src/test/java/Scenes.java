@@ -59,6 +59,17 @@ final class Scenes {
         return x;
     }
 
+    static Divisionorder inTheLastMonth() {
+        return busyLater(58);
+    }
+
+    /** One whose dues were asked for, and are at hand therefore. */
+    static Divisionorder busyAndAsked() {
+        Divisionorder x = busy();
+        x.owed(0);
+        return x;
+    }
+
     static Divisionorder fullOfTracts() {
         Divisionorder x = busy();
         for (int tract = 2; tract < 8; tract++) {
@@ -96,6 +107,16 @@ final class Scenes {
         for (int well = 2; well < 6; well++) {
             x.well(well % 2);
         }
+        return x;
+    }
+
+    /** The well 0 has all the costs in month 2 that it may have. */
+    static Divisionorder fullOfCosts() {
+        Divisionorder x = busy();
+        for (int times = 0; times < 9; times++) {
+            x.cost(0, 2, 1000000);
+        }
+        x.cost(0, 2, 999223);
         return x;
     }
 }
