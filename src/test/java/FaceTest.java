@@ -28,11 +28,22 @@ public final class FaceTest {
         "Exact\\b", "\\bvar\\b", "\\bSystem\\b", "\\bThread\\b", "\\bRandom\\b", "\\bequals\\b", "\\bhashCode\\b",
         "\\btoString\\b", "\\bNaN\\b", "[^\\x00-\\x7f]", "new \\w+Exception\\(\"[^\"]*\" \\+"};
 
+    private static final Path DOCUMENT = Path.of("../shared/DOC.md");
+    private static final Pattern HEAD = Pattern.compile("Ahead of the calls (.*) the interface says: (.*)\\.");
+
     public static void main(String[] args) throws IOException {
+        Path file = Path.of(args.length > 0 ? args[0] : "src/main/java/Divisionorder.java");
         face();
         members();
         sizes();
-        text(Path.of(args.length > 0 ? args[0] : "src/main/java/Divisionorder.java"));
+        text(file);
+        if (Files.isReadable(DOCUMENT)) {
+            String inOneLine = Files.readString(file, StandardCharsets.ISO_8859_1).replaceAll("\\s+", " ");
+            wordsOfTheFace(inOneLine);
+            headsOfTheCalls(inOneLine);
+        } else {
+            System.out.println("no " + DOCUMENT + ": the words of the face are not looked up");
+        }
         Check.end("FaceTest");
     }
 
@@ -101,5 +112,42 @@ public final class FaceTest {
             Matcher found = Pattern.compile(pattern).matcher(text);
             Check.same(pattern, found.find() ? "stands at " + found.start() : "is left out", "is left out");
         }
+    }
+
+    /** Reflection does not see the names of parameters, nor each class behind a throws. */
+    private static void wordsOfTheFace(String inOneLine) throws IOException {
+        int found = 0;
+        for (String line : Files.readAllLines(DOCUMENT, StandardCharsets.UTF_8)) {
+            if (line.startsWith("    public ")) {
+                String words = line.strip();
+                String due = words.endsWith(");") || words.contains(") throws ") ? words.replace(";", " {") : words;
+                Check.same(words, inOneLine.contains(" " + due + " "), true);
+                found++;
+            }
+        }
+        Check.same("the constant, the constructor and the calls", found, 2 + FACE.length);
+    }
+
+    private static void headsOfTheCalls(String inOneLine) throws IOException {
+        int found = 0;
+        int position = 0;
+        for (String line : Files.readAllLines(DOCUMENT, StandardCharsets.UTF_8)) {
+            Matcher head = HEAD.matcher(line);
+            if (head.matches()) {
+                position = behind(inOneLine, "// " + head.group(2) + " public ", position);
+                for (String call : head.group(1).replace("`", "").split(", ")) {
+                    position = behind(inOneLine, " " + call + "(", position);
+                    found++;
+                }
+            }
+        }
+        Check.same("calls behind a head", found, FACE.length);
+    }
+
+    /** Where the words are, from that position on; the calls and their heads stand in the order of the document. */
+    private static int behind(String text, String words, int position) {
+        int found = text.indexOf(words, position);
+        Check.same(words + " stands in its place", found >= 0, true);
+        return found >= 0 ? found : position;
     }
 }
